@@ -386,15 +386,15 @@ public final class LakePlant {
         }
 
         private int priceOf(int hour) {
-            return isHour(hour) ? cells[PRICES + hour] : 0;
+            return hour >= 0 && hour < HOURS ? cells[PRICES + hour] : 0;
         }
 
         private int inflowOf(int hour) {
-            return isHour(hour) ? cells[INFLOWS + hour] : 0;
+            return hour >= 0 && hour < HOURS ? cells[INFLOWS + hour] : 0;
         }
 
         private int planOf(int hour) {
-            return isHour(hour) ? cells[PLANS + hour] : 0;
+            return hour >= 0 && hour < HOURS ? cells[PLANS + hour] : 0;
         }
 
         private int contracts() {
@@ -517,13 +517,12 @@ public final class LakePlant {
             if (!isContract(number)) {
                 return NO_SUCH;
             }
-            int left = contracts() - 1;
-            for (int cell = CONTRACTS + number * PARTS; cell < CONTRACTS + left * PARTS; cell++) {
+            for (int cell = CONTRACTS + number * PARTS; cell + PARTS < CONTRACT_COUNT; cell++) {
                 cells[cell] = cells[cell + PARTS];
             }
-            cells[CONTRACT_COUNT] = left;
+            cells[CONTRACT_COUNT]--;
             version++;
-            return left;
+            return contracts();
         }
 
         // The rules of an hour.
@@ -691,19 +690,26 @@ public final class LakePlant {
 
     /** The best plan: from the last hour to the first one, the most money that each level can still bring. */
     private static final class Search {
-        /** Less than any money; no plan leads to END. */
-        private static final int NO_PLAN = Integer.MIN_VALUE;
+        /** Less than any money: no plan leads to END. */
+        private static final int NO_PLAN = -1000000000;
+        /** The most that can be in the lake when nothing has left it yet. */
+        private static final int MOST_FILLED = MOST_LEVEL + MOST_INFLOW + MOST_UNITS;
 
         private final Lake lake;
         /** By hour and level ahead of it: the most money from there on; the row behind the last hour is for the end. */
         private final int[][] most = new int[HOURS + 1][MOST_LEVEL + 1];
         /** By what is pumped: what of it comes into the lake. */
         private final int[] gained = new int[MOST_UNITS + 1];
-        /** By what is let down: the money of the hour that is looked at, but for pumping. */
-        private final int[] earned = new int[MOST_UNITS + 1];
         private final int[] plan = new int[HOURS];
         private boolean found = false;
         private int solvedVersion = -1;
+
+        /** Of the hour that is looked at, by what is let down: its money, but for what is paid for pumping. */
+        private final int[] earned = new int[MOST_UNITS + 1];
+        /** By what is in the lake when the water has been let down: the most money of the hours behind. */
+        private final int[] ahead = new int[MOST_FILLED + 1];
+        /** By what is in the lake before that: the most money, but for pumping, if no more than FLOW is wanted. */
+        private final int[] idle = new int[MOST_FILLED + 1];
 
         private Search(Lake lake) {
             this.lake = lake;
@@ -721,6 +727,7 @@ public final class LakePlant {
                 gained[pumped] = pumped - lake.lossOf(pumped);
             }
             for (int hour = HOURS - 1; hour >= 0; hour--) {
+                lookAt(hour);
                 solveHour(hour);
             }
             choosePlan();
@@ -733,59 +740,66 @@ public final class LakePlant {
             return most[hour][level];
         }
 
+        private void lookAt(int hour) {
+            for (int down = 0; down <= MOST_UNITS; down++) {
+                earned[down] = lake.earnedBy(hour, down);
+            }
+            for (int rest = 0; rest <= MOST_FILLED; rest++) {
+                ahead[rest] = mostFrom(hour + 1, rest - lake.spilledOf(rest));
+            }
+            int flow = lake.settingOf(FLOW);
+            for (int filled = 0; filled <= MOST_FILLED; filled++) {
+                idle[filled] = mostWith(filled, lake.letDownOf(filled, flow));
+            }
+        }
+
+        /** The most from the hour that is looked at, but for pumping, if down of what is filled is let down. */
+        private int mostWith(int filled, int down) {
+            int rest = filled - down;
+            if (down < 0 || down > MOST_UNITS || rest < 0 || rest > MOST_FILLED || ahead[rest] == NO_PLAN) {
+                return NO_PLAN;
+            }
+            return ahead[rest] + earned[down];
+        }
+
         private void solveHour(int hour) {
             if (!isHour(hour)) {
                 return;
             }
-            fillEarned(hour);
             // Only ahead of the day can there be more than HIGH.
             int top = hour == 0 ? MOST_LEVEL : Math.min(lake.settingOf(HIGH), MOST_LEVEL);
+            int price = lake.priceOf(hour);
             for (int level = 0; level <= top; level++) {
                 int filled = level + lake.inflowOf(hour);
-                most[hour][level] = Math.max(mostByPumping(hour, filled), mostByLettingDown(hour, filled));
+                most[hour][level] = Math.max(mostByPumping(filled, price), mostByLettingDown(filled));
             }
         }
 
-        private void fillEarned(int hour) {
-            for (int down = 0; down <= MOST_UNITS; down++) {
-                earned[down] = lake.earnedBy(hour, down);
-            }
-        }
-
-        /** The most with FLOW let down and from none to PUMP pumped. */
-        private int mostByPumping(int hour, int filled) {
+        /** The most with from none to PUMP pumped, which leaves FLOW as what is wanted. */
+        private int mostByPumping(int filled, int price) {
             int top = Math.min(lake.settingOf(PUMP), MOST_UNITS);
-            int flow = lake.settingOf(FLOW);
-            int price = lake.priceOf(hour);
             int best = NO_PLAN;
             for (int pumped = 0; pumped <= top; pumped++) {
                 int more = filled + gained[pumped];
-                int money = mostWith(hour, more, lake.letDownOf(more, flow));
-                if (money != NO_PLAN) {
-                    best = Math.max(best, money - pumped * price);
+                if (more >= 0 && more <= MOST_FILLED && idle[more] != NO_PLAN) {
+                    best = Math.max(best, idle[more] - pumped * price);
                 }
             }
             return best;
         }
 
         /** The most with more than FLOW let down. A plan above what the lake gives is like one of just that much. */
-        private int mostByLettingDown(int hour, int filled) {
+        private int mostByLettingDown(int filled) {
             int top = Math.min(lake.settingOf(FALL), filled - lake.settingOf(LOW));
+            int flow = lake.settingOf(FLOW);
             int best = NO_PLAN;
-            for (int down = lake.settingOf(FLOW) + 1; down <= top; down++) {
-                best = Math.max(best, mostWith(hour, filled, down));
+            for (int down = 1; down <= top && down <= MOST_UNITS; down++) {
+                int rest = filled - down;
+                if (down > flow && rest >= 0 && rest <= MOST_FILLED && ahead[rest] != NO_PLAN) {
+                    best = Math.max(best, ahead[rest] + earned[down]);
+                }
             }
             return best;
-        }
-
-        /** The most from an hour on, but for its pumping, if down of what is filled leaves the lake. */
-        private int mostWith(int hour, int filled, int down) {
-            int level = Math.min(filled - down, lake.settingOf(HIGH));
-            if (!isHour(hour) || level < 0 || level > MOST_LEVEL || down < 0 || down > MOST_UNITS) {
-                return NO_PLAN;
-            }
-            int rest = most[hour + 1][level];
-            return rest == NO_PLAN ? NO_PLAN : rest + earned[down];
         }
 
         private void choosePlan() {
@@ -795,7 +809,7 @@ public final class LakePlant {
                 return;
             }
             for (int hour = 0; hour < HOURS; hour++) {
-                fillEarned(hour);
+                lookAt(hour);
                 plan[hour] = leastWithTheMost(hour, level);
                 level = lake.levelBehind(hour, level, plan[hour]);
             }
@@ -806,7 +820,7 @@ public final class LakePlant {
             for (int units = -lake.settingOf(PUMP); units < lake.settingOf(FALL); units++) {
                 int pumped = Lake.pumpedBy(units);
                 int filled = lake.filledLevel(hour, level, pumped);
-                int money = mostWith(hour, filled, lake.letDownOf(filled, lake.wantedBy(units)));
+                int money = mostWith(filled, lake.letDownOf(filled, lake.wantedBy(units)));
                 if (money != NO_PLAN && money - pumped * lake.priceOf(hour) == goal) {
                     return units;
                 }
