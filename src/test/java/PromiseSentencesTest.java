@@ -164,6 +164,13 @@ public final class PromiseSentencesTest extends Sentences {
             }
             due("ofContract(7, 0)", x.ofContract(7, 0), NO_SUCH);
             due("day(8): that of hour " + dropped + " is not missed any more", x.day(8), dropped < 2 ? 6 : 5);
+            int itsMoney = dropped < 2 ? dropped + 2 : -(dropped + 3);
+            due("day(0): neither its money nor a second time that of the last one", x.day(0), 10004320 + 5 - 45 - itsMoney);
+            for (int left = 6; left >= 0; left--) {
+                due("drop(" + left + "), the last one", x.drop(left), left);
+            }
+            due("day(0): nothing is left of all eight", x.day(0), 10004320);
+            due("best(): nothing is left of all eight", x.best(), new LakePlant().best());
         }
         sentence("Returns how many contracts there are then; NO_SUCH if there is no such contract.");
         LakePlant x = new LakePlant();
@@ -254,6 +261,8 @@ public final class PromiseSentencesTest extends Sentences {
         due("ofContract(0, 4): one less", x.ofContract(0, 4), 0);
         x.plan(23, 5);
         due("ofContract(0, 4): just its units", x.ofContract(0, 4), 1);
+        x.plan(23, 6);
+        due("ofContract(0, 4): one more", x.ofContract(0, 4), 1);
         x.plan(23, -5);
         due("ofContract(0, 4): while it pumps", x.ofContract(0, 4), 0);
         x.set(FLOW, 5);

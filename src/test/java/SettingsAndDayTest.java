@@ -499,6 +499,14 @@ public final class SettingsAndDayTest extends Sentences {
         due("best(): just HIGH, so as much is sold as is pumped behind it", x.best(), 10000000 + 7 * 10 + 8 * 20);
         x.set(END, 25);
         due("best(): END above HIGH", x.best(), NONE);
+        x = new LakePlant();
+        carriedOut(x, "i0-23=0");
+        x.set(PUMP, 0);
+        x.set(BEGIN, 128);
+        due("best(): FLOW is let down in every hour, and END is just left", x.best(), 10000000 + 24 * 180);
+        x.set(END, 81);
+        due("best(): FLOW is one too much", x.best(), NONE);
+        due("bestPlan(0): FLOW is one too much", x.bestPlan(0), NONE);
     }
 
     private static void mostMoney() {
@@ -534,6 +542,11 @@ public final class SettingsAndDayTest extends Sentences {
         x.set(FLOW, 30);
         x.set(DRY, 999);
         due("best(): the least that can be: fines, and every hour dry", x.best(), 10000000 - 3 * 9999 - 24 * 999);
+        x = new LakePlant();
+        x.price(23, 400);
+        due("best(): in the last hour down to just END", x.best(), 10000000 + 20 * 360 + 23 * 180 + 6 * 90);
+        due("bestPlan(23)", x.bestPlan(23), 120);
+        due("bestPlan(22)", x.bestPlan(22), 108);
     }
 
     private static void leastPlans() {
@@ -568,6 +581,13 @@ public final class SettingsAndDayTest extends Sentences {
         int[] first = {97, 98, 100, 100};
         for (int hour = 0; hour < 4; hour++) {
             due("bestPlan(" + hour + "): 5 have to be pumped, as early as may be", x.bestPlan(hour), first[hour]);
+        }
+        x = plainDay();
+        x.set(BEGIN, 10);
+        x.inflow(3, 10);
+        for (int hour = 0; hour < 24; hour++) {
+            int plan = hour == 7 || hour == 15 ? 10 : 0;
+            due("bestPlan(" + hour + "): what comes in hour 3 is kept", x.bestPlan(hour), 100 + plan);
         }
     }
 
